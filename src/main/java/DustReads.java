@@ -773,7 +773,7 @@ public final class DustReads {
         }
 
         Place placeAt(int spot) {
-            return plan != null && isSpot(spot) ? plan.places[spot] : null;
+            return plan == null || spot < 0 || spot >= plan.spots ? null : plan.places[spot];
         }
 
         boolean isOut(int spot) {

@@ -50,9 +50,13 @@ final class ForetoldTest {
         DustReads y = Due.of(ALL);
         Due.is("hearth by 7", y.ahead(4, 7, 0), 6 * 6 + 3);
         Due.is("window by 7", y.ahead(1, 7, 1), 1);
+        y.hours(17);
+        Due.is("dust of the evening's first hour", y.ahead(4, 1, 0), 6 * 6 + 11 * 3 + 3);
+        Due.is("the last sun", y.ahead(1, 1, 1), 12);
+        Due.is("no sun behind it", y.ahead(1, 2, 1), 12);
         Due.is("by none", y.ahead(3, 0, 0), 9);
         Due.is("by none", y.ahead(3, 0, 1), 8);
-        Due.pass(y, 999);
+        Due.pass(y, 999 - 17);
         Due.is("beyond the last hour", y.ahead(0, 99, 0), 1 + 3 * (999 + 99));
     }
 

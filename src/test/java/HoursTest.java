@@ -271,6 +271,13 @@ final class HoursTest {
         for (int what = 0; what < 7; what++) {
             Due.is("count " + what, x.count(what), due[what]);
         }
+        DustReads y = Due.of("spot glass 1 0 0;spot glass 1 0 0;spot glass 1 0 0;spot glass 1 0 0;"
+            + "spot glass 1 0 0;spot glass 1 0 0;spot glass 1 0 0;");
+        for (int s = 0; s < 7; s++) {
+            Due.is("out so far", y.count(5), s);
+            y.take(s, 1);
+        }
+        Due.is("all out", y.count(5), 7);
         int[] wrong = {-1, 7, MOST, LEAST};
         for (int what : wrong) {
             Due.is("count " + what, x.count(what), Due.BAD);

@@ -26,7 +26,6 @@ final class RowsTest {
         x.row(6, 1, 1);
         x.set(6, 0, 9);
         Due.is("ITEMS are 0 anew", x.copy(7, 39, 6, 0, 1), 1);
-        Due.of("spot glass 1 0 0;");
         Due.read(x, "spot glass 1 0 0;");
         Due.is("0 came", x.learnt(6, 0, 1, 0), 1);
         x.row(7, 1, 2);

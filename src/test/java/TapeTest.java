@@ -131,6 +131,10 @@ final class TapeTest {
         told("reader 1 1;", 0, 1);
         told("  spots open 1 0 0;", 2, 1);
         told("spo open 1 0 0;", 0, 1);
+        told("xpot open 1 0 0;", 0, 1);
+        told("spox open 1 0 0;", 0, 1);
+        told("spot xpen 1 0 0;", 5, 1);
+        told("spot open 1 0 0;xeader 1 1;", 16, 1);
         told("spot spot 1 0 0;", 5, 1);
         told("spot opens 1 0 0;", 5, 1);
         told("spot ope 1 0 0;", 5, 1);
