@@ -19,6 +19,7 @@ final class HoursTest {
         acts24();
         spotIsRefused();
         counts();
+        sevenSpots();
         Due.end("HoursTest");
     }
 
@@ -271,16 +272,31 @@ final class HoursTest {
         for (int what = 0; what < 7; what++) {
             Due.is("count " + what, x.count(what), due[what]);
         }
-        DustReads y = Due.of("spot glass 1 0 0;spot glass 1 0 0;spot glass 1 0 0;spot glass 1 0 0;"
-            + "spot glass 1 0 0;spot glass 1 0 0;spot glass 1 0 0;");
-        for (int s = 0; s < 7; s++) {
-            Due.is("out so far", y.count(5), s);
-            y.take(s, 1);
-        }
-        Due.is("all out", y.count(5), 7);
         int[] wrong = {-1, 7, MOST, LEAST};
         for (int what : wrong) {
             Due.is("count " + what, x.count(what), Due.BAD);
         }
+    }
+
+    private static void sevenSpots() {
+        String glass = "spot glass 1 1 0;";
+        DustReads x = Due.of(glass + glass + glass + glass + glass + glass + "spot open 2 1 0;");
+        Due.is("the last", x.spot(6, 0), 2);
+        Due.is("none behind it", x.spot(7, 0), Due.BAD);
+        Due.is("take none", x.take(7, 1), Due.BAD);
+        Due.is("change none", x.change(6, 7), Due.BAD);
+        Due.is("fall in none", x.fall(7, 0, 0), Due.BAD);
+        Due.is("set of all and none", x.dusts(128), Due.BAD);
+        Due.is("hand for all and none", x.oneHand(255), Due.BAD);
+        Due.is("kind of none", x.kind(7), Due.BAD);
+        x.change(0, 6);
+        Due.is("moved", x.moved(), 65);
+        Due.is("hide", x.hide(0), 62);
+        Due.is("dusts all", x.dusts(127), 5);
+        for (int s = 0; s < 7; s++) {
+            Due.is("out so far", x.count(5), s);
+            x.take(s, 1);
+        }
+        Due.is("all out", x.count(5), 7);
     }
 }
