@@ -30,22 +30,9 @@ final class ForetoldTest {
     }
 
     private static void aheadIsWhatComes() {
-        DustReads x = Due.of(ALL);
-        x.hours(5);
-        int[][] dust = new int[5][100];
-        int[][] faded = new int[5][100];
-        for (int n = 0; n <= 99; n++) {
-            for (int s = 0; s < 5; s++) {
-                dust[s][n] = x.ahead(s, n, 0);
-                faded[s][n] = x.ahead(s, n, 1);
-            }
-        }
-        for (int n = 0; n <= 99; n++) {
-            for (int s = 0; s < 5; s++) {
-                Due.is("dust of " + s + " ahead by " + n, dust[s][n], x.spot(s, 1));
-                Due.is("faded of " + s + " ahead by " + n, faded[s][n], x.spot(s, 3));
-            }
-            x.hours(1);
+        for (int s = 0; s < 5; s++) {
+            aheadIsWhatComes(s, 0);
+            aheadIsWhatComes(s, 1);
         }
         DustReads y = Due.of(ALL);
         Due.is("hearth by 7", y.ahead(4, 7, 0), 6 * 6 + 3);
@@ -58,6 +45,19 @@ final class ForetoldTest {
         Due.is("by none", y.ahead(3, 0, 1), 8);
         Due.pass(y, 999 - 17);
         Due.is("beyond the last hour", y.ahead(0, 99, 0), 1 + 3 * (999 + 99));
+    }
+
+    private static void aheadIsWhatComes(int s, int what) {
+        DustReads x = Due.of(ALL);
+        x.hours(5);
+        int[] told = new int[100];
+        for (int n = 0; n <= 99; n++) {
+            told[n] = x.ahead(s, n, what);
+        }
+        for (int n = 0; n <= 99; n++) {
+            Due.is((what == 0 ? "dust of " : "faded of ") + s + " ahead by " + n, told[n], x.spot(s, what == 0 ? 1 : 3));
+            x.hours(1);
+        }
     }
 
     private static void aheadOfWhatIsOut() {

@@ -117,7 +117,7 @@ final class ModelTest {
         for (int k = 0; late && k < 41; k++) {
             alike("hours 24", x.hours(24), y.hours(24));
         }
-        while (made < CALLS - 70) {
+        while (made < CALLS - 90) {
             switch (random.nextInt(12)) {
                 case 0: callRows(); break;
                 case 1: case 2: callTape(); break;
