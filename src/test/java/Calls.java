@@ -2,7 +2,7 @@ import java.lang.reflect.Method;
 import java.util.HashMap;
 import java.util.Map;
 
-/** What the tests of refusals share: calls by name, objects in which much has happened, and all that can be seen of one. */
+/** What the tests of refusals share: calls by name, objects in which much has happened, all that can be seen of one. */
 final class Calls {
     static final int MOST = Integer.MAX_VALUE, LEAST = Integer.MIN_VALUE;
     private static final Map<String, Method> FACE = new HashMap<>();
@@ -38,12 +38,13 @@ final class Calls {
     }
 
     /**
-     * SPOT 0 stands with 4 of dust at hour 5, SPOTS 1 and 2 are changed, SPOT 3 is out for 6 hours yet. Row 0 has 3 bytes,
-     * row 1 has 4 ints, row 2 has 21 bytes (7 all), row 3 had shorts and is missing. 7 bytes are on the tape, fault() is 2,
-     * status() is 2.
+     * SPOT 0 stands with 4 of dust at hour 5, SPOTS 1 and 2 are changed, SPOT 3 is out for 6 hours yet. Row 0 has 3
+     * bytes, row 1 has 4 ints, row 2 has 21 bytes (7 all), row 3 had shorts and is missing. 7 bytes are on the tape,
+     * fault() is 2, status() is 2.
      */
     static DustReads busy() {
-        DustReads x = Due.of("spot open 1 0 1;spot window 2 5 2;spot corner 3 9 3;spot glass 4 2 4;reader 0 9;reader 3 5;");
+        DustReads x = Due.of("spot open 1 0 1;spot window 2 5 2;spot corner 3 9 3;spot glass 4 2 4;"
+            + "reader 0 9;reader 3 5;");
         x.hours(1);
         x.image(1);
         x.change(1, 2);

@@ -122,7 +122,8 @@ final class EdgesTest {
 
     private static void lanesWrapAround() {
         int[][] ends = {{127, 127, 127}, {128, -128, 128}, {-128, -128, -128}, {-129, 127, -129},
-            {32767, -1, 32767}, {32768, 0, -32768}, {-32768, 0, -32768}, {-32769, -1, 32767}, {MOST, -1, -1}, {LEAST, 0, 0}};
+            {32767, -1, 32767}, {32768, 0, -32768}, {-32768, 0, -32768}, {-32769, -1, 32767},
+            {MOST, -1, -1}, {LEAST, 0, 0}};
         DustReads x = new DustReads();
         for (int lane = 0; lane < 3; lane++) {
             x.row(lane, lane, 1);
@@ -277,11 +278,10 @@ final class EdgesTest {
             boolean blank = code == 32 || code == 10;
             boolean letter = c >= 'a' && c <= 'z';
             if (blank) {
-                reads(c + "spot" + c + c + "open" + c + "1" + c + "0" + c + "0" + c + ";" + c + "reader" + c + "1" + c + "1"
-                    + c + ";" + c, 1);
+                reads(" spot  open 1 0 0 ;  reader 1 1 ; ".replace(' ', c), 1);
             } else {
                 faulty(c + ONE, 0, 1);
-                faulty("spot open 1 0 0" + c + (c == ';' ? ";" : ""), c == ';' ? 16 : c >= '0' && c <= '9' ? 16 : 15, 1);
+                faulty("spot open 1 0 " + (c == ';' ? "" : "0 ") + c, c == ';' ? 14 : 16, 1);
                 faulty(ONE + c, 16, 1);
                 faulty("spot" + c + "open 1 0 0;", letter ? 0 : 4, 1);
             }
@@ -755,8 +755,9 @@ final class EdgesTest {
         DustReads x = Due.of("spot open 3 0 0;spot hearth 3 0 0;spot corner 3 0 0;spot glass 3 0 0;");
         x.row(0, 0, 1);
         int[][] due = {{0, Due.NONE, Due.NONE, 1, 1}, {1, 1, Due.NONE, 2, Due.NONE}, {2, 2, 1, 4, Due.NONE},
-            {3, 3, Due.NONE, Due.NONE, Due.NONE}, {5, 5, Due.NONE, Due.NONE, Due.NONE}, {6, Due.NONE, 3, Due.NONE, Due.NONE},
-            {10, Due.NONE, 5, Due.NONE, Due.NONE}, {12, Due.NONE, Due.NONE, Due.NONE, Due.NONE},
+            {3, 3, Due.NONE, Due.NONE, Due.NONE}, {5, 5, Due.NONE, Due.NONE, Due.NONE},
+            {6, Due.NONE, 3, Due.NONE, Due.NONE}, {10, Due.NONE, 5, Due.NONE, Due.NONE},
+            {12, Due.NONE, Due.NONE, Due.NONE, Due.NONE},
             {-1, Due.NONE, Due.NONE, Due.NONE, Due.NONE}};
         for (int[] d : due) {
             x.set(0, 0, d[0]);

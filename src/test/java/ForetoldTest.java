@@ -48,6 +48,7 @@ final class ForetoldTest {
     }
 
     private static void aheadIsWhatComes(int s, int what) {
+        String name = (what == 0 ? "dust of " : "faded of ") + s;
         DustReads x = Due.of(ALL);
         x.hours(5);
         int[] told = new int[100];
@@ -55,7 +56,7 @@ final class ForetoldTest {
             told[n] = x.ahead(s, n, what);
         }
         for (int n = 0; n <= 99; n++) {
-            Due.is((what == 0 ? "dust of " : "faded of ") + s + " ahead by " + n, told[n], x.spot(s, what == 0 ? 1 : 3));
+            Due.is(name + " ahead by " + n, told[n], x.spot(s, what == 0 ? 1 : 3));
             x.hours(1);
         }
     }

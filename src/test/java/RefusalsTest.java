@@ -20,6 +20,7 @@ final class RefusalsTest {
         badAheadOfFindings();
         findingsFirstInTime();
         answeredLeavesNoFinding();
+        othersLeaveStatus();
         Due.end("RefusalsTest");
     }
 
@@ -316,9 +317,34 @@ final class RefusalsTest {
         answered(3, 0, "drop", 0);
         answered(Due.NONE, 0, "learnt", 0, 0, 3, 0);
         answered(3, 0, "as", 3, 4);
-        answered(29, 2, "hours", 24);
-        answered(4, 2, "kind", 2);
+    }
+
+    /** Calls without a row, but for as(), leave status() as it is, where they answer too. */
+    private static void othersLeaveStatus() {
         answered(15, 2, "feed", 32, 8);
+        answered(-1000105, 2, "library");
+        answered(2, 2, "fault");
+        answered(29, 2, "hours", 24);
+        answered(8, 2, "take", 1, 1);
+        answered(1, 2, "change", 0, 2);
+        answered(18, 2, "dusts", 7);
+        answered(7, 2, "undo");
+        answered(4, 2, "spot", 0, 1);
+        answered(1, 2, "fall", 2, 0, 0);
+        answered(4, 2, "ahead", 0, 0, 0);
+        answered(1, 2, "when", 0, 4, 0);
+        answered(Due.NONE, 2, "when", 0, 9999, 0);
+        answered(1, 2, "who", 0, 4, 1);
+        answered(3, 2, "oneHand", 0);
+        answered(6, 2, "moved");
+        answered(Due.NONE, 2, "like", 0, 1);
+        answered(0, 2, "hide", 9999);
+        answered(1, 2, "image", 0);
+        answered(1, 2, "restore", 0);
+        answered(4, 2, "kind", 2);
+        answered(4, 2, "ask", 0, 1);
+        answered(23, 2, "trace", 0);
+        answered(3, 2, "count", 0);
     }
 
     private static void answered(int answer, int status, String name, int... given) {
