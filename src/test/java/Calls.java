@@ -1,5 +1,6 @@
 import java.lang.reflect.Method;
 import java.util.HashMap;
+import java.util.LinkedHashMap;
 import java.util.Map;
 
 /** What the tests of refusals share: calls by name, objects in which much has happened, all that can be seen of one. */
@@ -80,10 +81,11 @@ final class Calls {
         return x;
     }
 
-    /** No LIBRARY; fault() is 1, status() is 2. */
+    /** No LIBRARY; 7 bytes are on the tape, fault() is 2, status() is 2. */
     static DustReads bare() {
         DustReads x = new DustReads();
-        x.library();
+        Due.read(x, "spot open 9 0 0;");
+        Due.feed(x, "spot gl");
         Due.lay(x, 0, 0, SEVEN, SEVEN, SEVEN);
         x.set(0, 3, 1);
         return x;
@@ -91,32 +93,38 @@ final class Calls {
 
     /** All that can be seen of an object but status(); it is spent then. */
     static String look(DustReads x) {
-        StringBuilder seen = new StringBuilder("fault ").append(x.fault()).append(" trace");
+        Map<String, String> parts = parts(x);
+        parts.remove("status");
+        return parts.toString();
+    }
+
+    /** All that can be seen of an object, by parts; it is spent then. */
+    static Map<String, String> parts(DustReads x) {
+        Map<String, String> parts = new LinkedHashMap<>();
+        parts.put("status", "" + x.status());
+        parts.put("fault", "" + x.fault());
+        parts.put("trace", trace(x));
+        parts.put("library", library(x));
+        parts.put("acts", acts(x));
+        for (int k = 0; k < 2; k++) {
+            parts.put("image " + k, x.restore(k) == 1 ? library(x) : "none");
+        }
+        parts.put("tape", tape(x));
+        parts.put("rows", rows(x));
+        return parts;
+    }
+
+    private static String trace(DustReads x) {
+        StringBuilder seen = new StringBuilder();
         for (int i = 0; i < 6; i++) {
             seen.append(' ').append(x.trace(i));
         }
-        lookAtLibrary(x, seen);
-        int left = x.count(4);
-        for (int k = 0; k < left; k++) {
-            seen.append("; undo ").append(x.undo());
-            // Not each time: an object has 512 calls.
-            if (left < 12 || k % 6 == 5) {
-                lookAtLibrary(x, seen);
-            } else {
-                seen.append(' ').append(x.count(3)).append(' ').append(x.spot(0, 1));
-            }
-        }
-        for (int k = 0; k < 2; k++) {
-            seen.append("; image ").append(k).append(' ').append(x.restore(k));
-            lookAtLibrary(x, seen);
-        }
-        lookAtTapeAndRows(x, seen);
         return seen.toString();
     }
 
-    private static void lookAtLibrary(DustReads x, StringBuilder seen) {
-        seen.append("; library");
-        for (int what = 0; what < 7; what++) {
+    private static String library(DustReads x) {
+        StringBuilder seen = new StringBuilder();
+        for (int what : new int[] {1, 2, 3, 5}) {
             seen.append(' ').append(x.count(what));
         }
         for (int s = 0; s < x.count(1); s++) {
@@ -124,22 +132,47 @@ final class Calls {
                 seen.append(' ').append(x.spot(s, what));
             }
         }
-        seen.append(" hand ").append(x.oneHand(0));
+        return seen.toString();
     }
 
-    /** The tape is read to its end as a library with 7 of dust under glass, by which the rows are read. */
-    private static void lookAtTapeAndRows(DustReads x, StringBuilder seen) {
+    /** All ACTS are undone. */
+    private static String acts(DustReads x) {
+        int left = x.count(4);
+        StringBuilder seen = new StringBuilder().append(left);
+        for (int k = 0; k < left; k++) {
+            seen.append("; undo ").append(x.undo());
+            // Not each time: an object has 512 calls.
+            if (left < 12 || k % 6 == 5) {
+                seen.append(library(x));
+            } else {
+                seen.append(' ').append(x.count(3)).append(' ').append(x.spot(0, 1));
+            }
+        }
+        return seen.toString();
+    }
+
+    /** It is read to its end, as a library with 7 of dust under glass. */
+    private static String tape(DustReads x) {
+        StringBuilder seen = new StringBuilder().append(x.count(6));
         if (x.count(6) < 10) {
             Due.feed(x, x.count(6) == 0 ? "spot glass 1 7 0;" : "ass 1 7 0;");
         }
-        seen.append("; tape ").append(x.library()).append(' ').append(x.kind(0)).append(' ').append(x.count(1));
+        return seen.append(' ').append(x.library()).append(' ').append(x.kind(0)).append(' ').append(x.count(1))
+            .toString();
+    }
+
+    /** By 7 of dust under glass; the ROWS are missing then. */
+    private static String rows(DustReads x) {
+        Due.read(x, "spot glass 1 7 0;");
+        StringBuilder seen = new StringBuilder();
         for (int row = 0; row < 8; row++) {
             int n = 0;
             while (x.learnt(row, n, 1, 0) == 1) {
                 n++;
             }
             // What becomes of 40000 tells the LANE.
-            seen.append("; row ").append(n).append(' ').append(x.set(row, 0, 40000)).append(' ').append(x.drop(row));
+            seen.append(' ').append(n).append(' ').append(x.set(row, 0, 40000)).append(' ').append(x.drop(row));
         }
+        return seen.toString();
     }
 }

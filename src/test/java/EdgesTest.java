@@ -73,6 +73,7 @@ final class EdgesTest {
         hideByJustSoMuch();
         learntDraught1To5();
         learntOf1And20();
+        learntByWholeNumbers();
     }
 
     private static void imagesAndAsks() {
@@ -789,6 +790,25 @@ final class EdgesTest {
         Due.is("behind the last", x.learnt(0, 21, 1, 0), Due.PLACE);
         x.row(0, 2, 0);
         Due.is("a row of none", x.learnt(0, 0, 1, 0), Due.PLACE);
+    }
+
+    /** DUST beyond what a byte holds is told by wider LANES alone, and by just its number. */
+    private static void learntByWholeNumbers() {
+        DustReads x = Due.of("spot glass 1 99 0;spot open 5 99 0;");
+        Due.pass(x, 40);
+        Due.is("its dust", x.spot(1, 1), 299);
+        for (int lane = 0; lane < 3; lane++) {
+            x.row(lane, lane, 1);
+            x.set(lane, 0, 303);
+            Due.is("303 in lane " + lane, x.learnt(lane, 0, 1, 1), lane == 0 ? Due.NONE : 4);
+            x.set(lane, 0, 303 + 65536);
+            Due.is("303 and 65536 in lane " + lane, x.learnt(lane, 0, 1, 1), lane == 1 ? 4 : Due.NONE);
+        }
+        for (int wrong : new int[] {303 - 256, 303 + 256, -303, 304 + (1 << 30), 298, 299, 305}) {
+            x.set(2, 0, wrong);
+            Due.is("by " + wrong, x.learnt(2, 0, 1, 1), Due.NONE);
+            Due.is("by " + wrong, x.learnt(2, 0, 1, 0), Due.NONE);
+        }
     }
 
     // ---- images, asks

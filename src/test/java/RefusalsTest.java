@@ -14,6 +14,7 @@ final class RefusalsTest {
         alikeIsBad();
         withoutLibraryIsState();
         withoutLibraryNoSpotIs();
+        withoutActsIsState();
         badAheadOfState();
         stateAheadOfFindings();
         badAheadOfFull();
@@ -208,6 +209,34 @@ final class RefusalsTest {
             onBare(Due.BAD, "as", s, 0);
             onBare(Due.BAD, "ask", s, 0);
         }
+    }
+
+    private static DustReads withoutActs() {
+        DustReads x = Calls.busy();
+        x.image(0);
+        x.restore(0);
+        x.hours(1);
+        x.take(0, 2);
+        x.undo();
+        x.undo();
+        return x;
+    }
+
+    /** STATE: none, where there is a LIBRARY; also where there were some, and behind restore. */
+    private static void withoutActsIsState() {
+        refused(withoutActs(), Calls.look(withoutActs()), Due.STATE, "undo");
+        DustReads x = Calls.busy();
+        DustReads y = Calls.busy();
+        while (x.count(4) > 0) {
+            x.undo();
+            y.undo();
+        }
+        refused(x, Calls.look(y), Due.STATE, "undo");
+        x = Calls.busy();
+        y = Calls.busy();
+        x.restore(1);
+        y.restore(1);
+        refused(x, Calls.look(y), Due.STATE, "undo");
     }
 
     /** SPOT 3 is out. */

@@ -6,6 +6,7 @@ final class RowsTest {
         rowIsLaid();
         rowIsRefused();
         setCutsToTheLane();
+        whatIsCutIsKept();
         setIsRefused();
         copyCarries();
         copyIsRefused();
@@ -96,6 +97,28 @@ final class RowsTest {
         for (int i = 0; i < items.length; i++) {
             Due.read(x, "spot open 1 " + (items[i] - 1) + " 0;");
             Due.is(what + ", item " + i, x.learnt(row, i, 1, 0), 1);
+        }
+    }
+
+    /** Not only the answer is cut: the ITEM is, copied too. */
+    private static void whatIsCutIsKept() {
+        DustReads x = new DustReads();
+        x.row(0, 0, 2);
+        x.row(1, 1, 2);
+        x.row(2, 2, 2);
+        int[] values = {7 + 256, 7 + 65536, 7 - 256, 7 - 65536, 7 + (1 << 24), LEAST + 7};
+        for (int v : values) {
+            for (int row = 0; row < 3; row++) {
+                x.set(row, 0, v);
+                x.copy(row, 0, row, 1, 1);
+            }
+            holds(x, "byte of " + v, 0, 7, 7);
+            if ((short) v == 7) {
+                holds(x, "short of " + v, 1, 7, 7);
+            } else {
+                Due.is("short of " + v, x.learnt(1, 0, 1, 0), Due.NONE);
+            }
+            Due.is("int of " + v, x.learnt(2, 0, 1, 0), Due.NONE);
         }
     }
 
