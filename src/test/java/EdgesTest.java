@@ -24,6 +24,7 @@ final class EdgesTest {
         copyToBothEnds();
         copyAsTheyWereAhead();
         dropOfEmptyAndFull();
+        eachSize();
     }
 
     private static void tape() {
@@ -68,6 +69,7 @@ final class EdgesTest {
         whoAtTheEndsOfHisHours();
         whoWhereNoHourIs();
         handsOfNoneAndAll();
+        handsForSevenSpots();
         movedNoneAndAll();
         likeBehind0And99();
         hideByJustSoMuch();
@@ -79,6 +81,7 @@ final class EdgesTest {
     private static void imagesAndAsks() {
         imagesStandAlone();
         restoredAgain();
+        keptInTheLastHour();
         traceIsEmptyAhead();
         traceHasAnEnd();
         kindsThatItIsToo();
@@ -179,6 +182,21 @@ final class EdgesTest {
         Due.is("missing then", x.drop(7), Due.NULL);
         Due.is("again", x.row(7, 1, 1), 1);
         Due.is("dropped again", x.drop(7), 1);
+    }
+
+    private static void eachSize() {
+        for (int lane = 0; lane < 3; lane++) {
+            DustReads x = new DustReads();
+            x.row(1, lane, 40);
+            for (int n = 0; n <= 40; n++) {
+                Due.is("row of " + n, x.row(0, lane, n), n);
+                Due.is("copy of " + n, x.copy(1, 40 - n, 0, 0, n), n);
+                Due.is("back", x.copy(0, 0, 1, 0, n), n);
+                Due.is("one more", x.copy(0, 0, 1, 0, n + 1), Due.PLACE);
+                Due.is("behind the last", x.set(0, n, 1), Due.PLACE);
+                Due.is("drop of " + n, x.drop(0), n);
+            }
+        }
     }
 
     // ---- the tape
@@ -688,6 +706,23 @@ final class EdgesTest {
         Due.is("both", x.oneHand(3), 0b010);
     }
 
+    /** SPOT s was dusted in hour s: who comes then can have done it. */
+    private static void handsForSevenSpots() {
+        DustReads x = Due.of("spot open 2 0 0;".repeat(7) + "reader 0 6;reader 1 5;reader 2 23;reader 6 6;");
+        int[] hands = {0b0001, 0b0011, 0b0111, 0b0111, 0b0111, 0b0111, 0b1101};
+        for (int s = 0; s < 7; s++) {
+            x.dusts(1 << s);
+            x.hours(1);
+        }
+        for (int set = 0; set < 128; set++) {
+            int due = 0b1111;
+            for (int s = 0; s < 7; s++) {
+                due &= (set >> s & 1) == 1 ? hands[s] : 0b1111;
+            }
+            Due.is("one hand for " + set, x.oneHand(set), due);
+        }
+    }
+
     private static void movedNoneAndAll() {
         DustReads x = Due.of(ONE.repeat(7));
         Due.is("none", x.moved(), 0);
@@ -781,6 +816,9 @@ final class EdgesTest {
         Due.is("1 of hour 0: the least", x.learnt(0, 1, 1, 0), 4);
         Due.is("beyond the end", x.learnt(0, 2, 20, 0), Due.PLACE);
         Due.is("not from 0", x.learnt(0, 0, 1, 0), Due.NONE);
+        for (int n = 2; n <= 19; n++) {
+            Due.is(n + " of it", x.learnt(0, 1, n, 0), 5);
+        }
         Due.is("21", x.learnt(0, 0, 21, 0), Due.BAD);
         x.hours(1);
         Due.is("from hour 1 on", x.learnt(0, 2, 19, 0), 5);
@@ -788,6 +826,10 @@ final class EdgesTest {
         x.set(0, 20, 99);
         Due.is("the last counts", x.learnt(0, 2, 19, 0), Due.NONE);
         Due.is("behind the last", x.learnt(0, 21, 1, 0), Due.PLACE);
+        x.row(0, 2, 40);
+        x.set(0, 39, 5 + 3);
+        Due.is("item 39", x.learnt(0, 39, 1, 0), 5);
+        Due.is("and one more", x.learnt(0, 39, 2, 0), Due.PLACE);
         x.row(0, 2, 0);
         Due.is("a row of none", x.learnt(0, 0, 1, 0), Due.PLACE);
     }
@@ -855,6 +897,31 @@ final class EdgesTest {
         x.restore(0);
         Due.is("the latest kept", x.kind(0), 3);
         Due.is("its spots", x.count(1), 1);
+    }
+
+    /** HOUR 999 in an IMAGE; from there to hour 0 and back. */
+    private static void keptInTheLastHour() {
+        DustReads x = Due.of(SORTS + "reader 15 15;");
+        x.image(0);
+        Due.pass(x, 999);
+        x.change(0, 1);
+        x.take(3, 48);
+        Due.is("kept", x.image(1), 1);
+        for (int k = 0; k < 2; k++) {
+            Due.is("hour 999", x.count(3), 999);
+            Due.is("no hour more", x.hours(1), Due.FULL);
+            Due.is("moved", x.moved(), 3);
+            Due.is("out", x.spot(3, 4), 48);
+            Due.is("its dust", x.spot(2, 1), 999 / 2 * 3 + 1);
+            Due.is("he comes now", x.who(0, 0, 1), 1);
+            for (int s = 0; s < 5; s++) {
+                Due.is("draught of " + s, x.spot(s, 0), 5 - s);
+            }
+            Due.is("back to hour 0", x.restore(0), 1);
+            Due.is("hour 0", x.count(3), 0);
+            Due.is("an hour", x.hours(1), 1);
+            Due.is("to hour 999", x.restore(1), 1);
+        }
     }
 
     /** THE TRACE is empty ahead of an ASK (where that is refused it stays). */
